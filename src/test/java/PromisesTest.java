@@ -715,6 +715,7 @@ public final class PromisesTest {
     c.due("no such", x.run(-2), -5);
     c.due("nothing is changed", x.personOf(1, 0) + x.status(7), 60);
     refusals(x, 0, 0, 0, 0, 2);
+    c.due("all", x.tell(0, 0, 7) + x.tell(2, 0, 1) + x.run(NONE), 5);
   }
 
   private static void rules() {
@@ -807,6 +808,9 @@ public final class PromisesTest {
     c.due("only in the basin", x.dear(0), 1);
     c.due("goes", square(x, "has 1 0"), 1);
     c.due("empty", x.dear(0), NONE);
+    FountainGivesChange y = of("person 0 0 0");
+    c.due("one is the most", y.dear(1), 0);
+    c.due("the last wish", y.tell(0, 2, 7) + y.dear(1), 7);
     c.due("what", x.dear(2), -15);
     c.due("what", x.dear(-1), -15);
     refusals(x, 0, 0, 0, 0, 2);
@@ -935,6 +939,8 @@ public final class PromisesTest {
     c.due("no such n", x.cast(0, MIN), -6);
     c.due("no such n", x.cast(0, MAX), -6);
     refusals(x, 2, 0, 0, 0, 0, 7);
+    c.due("all that he has", x.tell(0, 0, 5) + x.cast(0, 5), 10);
+    c.due("nothing left", x.personOf(0, 0), 0);
     FountainGivesChange y = of("piece 0 0 1;piece 0 0 3;piece 0 0 4;piece 0 0 3;person 99 0 0;greedy");
     c.due("by the rule", y.cast(0, 11), -6);
     c.due("by the rule", y.cast(0, 10), 5);
@@ -1140,8 +1146,10 @@ public final class PromisesTest {
     c.due("of nothing", y.image(), 0);
     y.piece(0, 0, 1);
     y.show(7, 0);
+    y.show(0, 0);
     c.due("of nothing", y.restore(), 0);
     c.due("nothing", y.holds(7), NONE);
+    c.due("nothing", y.holds(0), NONE);
     c.due("nothing", y.status(0), 0);
     refusals(y);
   }
