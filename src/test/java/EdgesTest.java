@@ -359,6 +359,7 @@ public final class EdgesTest {
     c.due("all by the best", all.amounts(0), 99);
     c.due("one piece", worths(50).amounts(0), 1);
     c.due("two of 50: 100 doesn't count", worths(50, 50).amounts(0), 1);
+    c.due("by the greedy", worths(50, 50).amounts(1), 1);
     c.due("50 and 49: 99 counts", worths(50, 49).amounts(0), 3);
     c.due("by the greedy", worths(50, 49).amounts(1), 3);
     c.due("0 doesn't count", new FountainGivesChange().amounts(0), 0);
@@ -686,6 +687,18 @@ public final class EdgesTest {
     c.due("granted", y.days(1), 1);
     c.due("three draws", y.status(8), next(next(next(1))));
     c.due("his piece", y.personOf(0, 4), 1);
+    // Nor does one come to him: the change for 0 is none.
+    for (int rule = 0; rule < 2; rule++) {
+      FountainGivesChange z = worths(1, 1, 1, 1, 1, 1, 1, 1, 1);
+      z.person(99, 9, 0);
+      z.person(99, 9, 0);
+      z.rule(rule);
+      has(z, 8, 1);
+      c.due("granted", z.days(9), z.status(7));
+      c.due("some were", z.status(7) > 0 ? 1 : 0, 1);
+      c.due("the basin", z.status(2), 8);
+      c.due("whose the ninth is", z.personOf(0, 4) + z.personOf(1, 4), 256);
+    }
   }
 
   private static void draws() {
