@@ -26,7 +26,7 @@ public final class FountainGivesChange {
     private final Square kept = new Square();
     private final Shelf[] shelves = new Shelf[SHELVES];
     private final Change table = new Change();
-    private final Reader reader = new Reader(draft);
+    private final Reader reader = new Reader();
     private final Moves moves = new Moves();
     private final int[] refused = new int[ROOM + 1];
     private boolean imaged = false;
@@ -241,13 +241,12 @@ public final class FountainGivesChange {
         if (why != 0) {
             return refuse(why);
         }
-        draft.take(now);
-        int items = reader.read(shelves[s]);
+        int items = reader.read(shelves[s], now);
         latestFault = reader.fault;
         if (items == NONE) {
             return refuse(WRONG);
         }
-        now.take(draft);
+        now.take(reader.square);
         return items;
     }
 
@@ -1113,7 +1112,7 @@ public final class FountainGivesChange {
         }
     }
 
-    /** Tells a SQUARE what a ROW of letters says; it stops at the FAULT. */
+    /** Tells a SQUARE of its own what a ROW of letters says; it stops at the FAULT. */
     private static final class Reader {
         private static final int PIECE = 0;
         private static final int PERSON = 1;
@@ -1123,19 +1122,16 @@ public final class FountainGivesChange {
         private static final int GREEDY = 5;
         private static final int WORDS = 7;
 
+        final Square square = new Square();
         int fault = NONE;
-        private final Square square;
         private final int[] letters = new int[Shelf.MOST_ELEMENTS];
         private int size = 0;
         private int at = 0;
         private int numberAt = 0;
 
-        Reader(Square onto) {
-            square = onto;
-        }
-
-        /** How many ITEMS the text has; NONE: it has a FAULT. */
-        int read(Shelf text) {
+        /** How many ITEMS the text, told over what there is, has; NONE: it has a FAULT. */
+        int read(Shelf text, Square over) {
+            square.take(over);
             size = text.readAll(letters);
             at = 0;
             fault = NONE;

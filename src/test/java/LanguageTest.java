@@ -51,6 +51,7 @@ public final class LanguageTest {
     }
     Matcher s = Pattern.compile("\\bstatic (?!final)[^({;=]*[;=]").matcher(code);
     c.holds("static fields are final", !s.find());
+    c.holds("no constructor hands anything out", !Pattern.compile("\\bnew [A-Z]\\w*\\([^)]").matcher(code).find());
   }
 
   /** A method's lines, by its braces at the two depths that methods have here. */
